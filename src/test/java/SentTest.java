@@ -258,9 +258,13 @@ public final class SentTest {
         CHECK.is("16 six are not sure", loom.end(0), 6);
         CHECK.is("16 ended", loom.ofStream(0, 0), 1);
         CHECK.refuses("16 ended once more", loom, STATE, () -> loom.end(0));
+        loom.stream(1, 10, 4);
+        Nets.write(loom, 2, 3);
+        loom.run(3);
+        Nets.write(loom, 2, 2);
+        CHECK.is("16 three of five are sure", loom.end(2), 2);
         CHECK.is("16 nothing to be sure of", loom.end(1), 0);
         CHECK.is("16 over at once", loom.ofStream(1, 0), 2);
-        loom.run(4);
         CHECK.is("16 it sends on", loom.ofStream(0, 2), 6);
         loom.run(4);
         CHECK.is("16 over, as all is sure", loom.ofStream(0, 0), 2);

@@ -18,6 +18,7 @@ public final class ToldTest {
         talk();
         talkOfCosts();
         talkWithoutRoom();
+        talkMakesRoom();
         filter();
         filterKnown();
         unfilter();
@@ -250,6 +251,24 @@ public final class ToldTest {
         CHECK.is("8 behind", loom.ofRoute(1, 9, 0), 12);
     }
 
+    private static void talkMakesRoom() {
+        NetLoom loom = Nets.line(3, 8, 1);
+        loom.node(20);
+        loom.node(21);
+        for (int i = 0; i < 8; i++) {
+            loom.route(0, 40 + i, 6, 0, 1);
+        }
+        loom.route(1, 20, 6, 1, 7);
+        loom.talk();
+        CHECK.is("8 ten", loom.ofNode(0, 1), 10);
+        CHECK.is("8 the last is to 20", loom.ofRoute(0, 9, 0), 20);
+        loom.unroute(1, 0);
+        loom.route(1, 20, 6, 1, 8);
+        loom.route(1, 21, 6, 1, 1);
+        loom.talk();
+        CHECK.is("8 that of cost 9 is gone at once, so there is room", loom.ofRoute(0, 9, 0), 21);
+    }
+
     private static void filter() {
         NetLoom loom = Nets.talkedLine(3, 8, 1);
         CHECK.refuses("9 no node", loom, INDEX, () -> loom.filter(3, 64, 0, 0, 0, 0, true, true));
@@ -297,7 +316,8 @@ public final class ToldTest {
         CHECK.is("9 known by what was made there", loom.run(3), 0);
         CHECK.is("9 it came there", loom.ofNode(1, 4), 7);
         loom.plain(2, 10, 8, 0);
-        CHECK.is("9 it stays known", loom.run(3), 0);
+        loom.plain(2, 11, 9, 0);
+        CHECK.is("9 each stays known", loom.run(4), 0);
     }
 
     private static void unfilter() {

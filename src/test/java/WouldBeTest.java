@@ -11,6 +11,8 @@ public final class WouldBeTest {
         lostWithout();
         digest();
         nothingIsChanged();
+        eachBeginsAnew();
+        idsGoOn();
         longLife();
         CHECK.end();
     }
@@ -193,6 +195,32 @@ public final class WouldBeTest {
             CHECK.is("29, 30 nothing is changed", asked.run(1 + i % 3), left.run(1 + i % 3));
             CHECK.is("29, 30 nothing at all", asked.digest(), left.digest());
         }
+    }
+
+    /** What came to be in one that would be is not there in the next. */
+    private static void eachBeginsAnew() {
+        NetLoom loom = Nets.talkedLine(3, 8, 1);
+        loom.link(0, 2, 8, 1);
+        loom.translator(1, 10, 6);
+        loom.plain(0, 12, 7, 0);
+        CHECK.is("30 it would be translated", loom.lostWithout(2, 4), 0);
+        loom.mark(0, false, 1, false);
+        CHECK.is("30 but it is lost", loom.run(3), 1);
+        loom.plain(2, 11, 7, 0);
+        CHECK.is("30 so none is translated back", loom.lostWithout(0, 5), 0);
+    }
+
+    private static void idsGoOn() {
+        NetLoom loom = Nets.talkedLine(2, 2, 1);
+        loom.mark(0, false, 1, false);
+        loom.mark(0, false, 2, false);
+        loom.mark(0, false, 4, false);
+        loom.plain(0, 11, 1, 8);
+        loom.run(5);
+        CHECK.is("29 a fragment is kept", loom.many(7), 1);
+        loom.stream(0, 11, 4);
+        Nets.write(loom, 0, 4);
+        CHECK.is("29 it is of another packet than those to come", loom.sureIn(0, 5), 4);
     }
 
     /** 512 calls, as long as they may be. */
