@@ -437,66 +437,13 @@ public final class AnswerEdgesTest {
 
     // ---- digest
 
-    /** By whole numbers without an end, of which the last 64 bits are taken once. */
-    private static final class Sum {
-        private BigInteger d = BigInteger.valueOf(9612);
-
-        void put(long v) {
+    /** By whole numbers without an end, of which the last 64 bits are to be taken once. */
+    private static BigInteger sumOf(NetLoom loom) {
+        BigInteger d = BigInteger.valueOf(9612);
+        for (long v : DigestValues.of(loom)) {
             d = d.multiply(BigInteger.valueOf(31)).add(BigInteger.valueOf(v));
         }
-    }
-
-    private static Sum sumOf(NetLoom loom) {
-        Sum sum = new Sum();
-        for (int what = 0; what <= 9; what++) {
-            sum.put(loom.many(what));
-        }
-        for (int loss = 0; loss <= 6; loss++) {
-            sum.put(loom.lost(loss));
-        }
-        for (int node = 0; node < loom.many(0); node++) {
-            sumOfNode(sum, loom, node);
-        }
-        for (int link = 0; link < loom.many(1); link++) {
-            for (int what = 0; what <= 6; what++) {
-                sum.put(loom.ofLink(link, false, what));
-            }
-            for (int what = 0; what <= 6; what++) {
-                sum.put(loom.ofLink(link, true, what));
-            }
-            sum.put(loom.lostWithout(link, 5));
-        }
-        for (int stream = 0; stream < loom.many(2); stream++) {
-            for (int what = 0; what <= 9; what++) {
-                sum.put(loom.ofStream(stream, what));
-            }
-            for (int k = 0; k < loom.ofStream(stream, 5); k++) {
-                sum.put(loom.letter(stream, k));
-            }
-            sum.put(loom.sureIn(stream, 10));
-        }
-        for (int capture = 0; capture < loom.many(8); capture++) {
-            sum.put(loom.captured(capture));
-        }
-        return sum;
-    }
-
-    private static void sumOfNode(Sum sum, NetLoom loom, int node) {
-        for (int what = 0; what <= 10; what++) {
-            sum.put(loom.ofNode(node, what));
-        }
-        for (int k = 0; k < loom.ofNode(node, 1); k++) {
-            for (int what = 0; what <= 4; what++) {
-                sum.put(loom.ofRoute(node, k, what));
-            }
-        }
-        for (int to = 0; to < loom.many(0); to++) {
-            int address = loom.ofNode(to, 0);
-            sum.put(loom.routeTo(node, address));
-            for (int k = 0; k <= 3; k++) {
-                sum.put(loom.trace(node, address, k));
-            }
-        }
+        return d;
     }
 
     private static void digestOfAFew() {
@@ -508,7 +455,7 @@ public final class AnswerEdgesTest {
         CHECK.is("31 many() of 3 is 1, with 13 values behind it", loom.digest(),
                 due.add(BigInteger.valueOf(31).pow(13)).longValue());
         loom.node(0);
-        CHECK.is("31 of one node", loom.digest(), sumOf(loom).d.longValue());
+        CHECK.is("31 of one node", loom.digest(), sumOf(loom).longValue());
     }
 
     private static void digestOfAll() {
@@ -517,10 +464,10 @@ public final class AnswerEdgesTest {
         NetLoom[] looms = {Nets.some(), Nets.full(), Nets.talkedLine(6, 2, 3), Nets.line(2, 8, 1)};
         for (NetLoom loom : looms) {
             for (int i = 0; i < 20; i++) {
-                Sum sum = sumOf(loom);
+                BigInteger sum = sumOf(loom);
                 long digest = loom.digest();
-                CHECK.is("31 far beyond 64 bits", sum.d.bitLength() > 256, true);
-                CHECK.is("31 the last 64 of them", digest, sum.d.longValue());
+                CHECK.is("31 far beyond 64 bits", sum.bitLength() > 256, true);
+                CHECK.is("31 the last 64 of them", digest, sum.longValue());
                 CHECK.is("31 the same once more", loom.digest(), digest);
                 wasBelow |= digest < 0;
                 wasAbove |= digest > 0;
@@ -552,7 +499,7 @@ public final class AnswerEdgesTest {
             }
             long next = loom.digest();
             CHECK.is("31 another one behind call " + i, next == last, false);
-            CHECK.is("31 by its words behind call " + i, next, sumOf(loom).d.longValue());
+            CHECK.is("31 by its words behind call " + i, next, sumOf(loom).longValue());
             last = next;
         }
     }

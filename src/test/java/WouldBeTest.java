@@ -91,52 +91,11 @@ public final class WouldBeTest {
 
     /** The digest by the words of the document, from the other answers. */
     private static long digestOf(NetLoom loom) {
-        long[] d = {9612};
-        for (int what = 0; what <= 9; what++) {
-            put(d, loom.many(what));
+        long d = 9612;
+        for (long v : DigestValues.of(loom)) {
+            d = d * 31 + v;
         }
-        for (int loss = 0; loss <= 6; loss++) {
-            put(d, loom.lost(loss));
-        }
-        for (int node = 0; node < loom.many(0); node++) {
-            for (int what = 0; what <= 10; what++) {
-                put(d, loom.ofNode(node, what));
-            }
-            for (int k = 0; k < loom.ofNode(node, 1); k++) {
-                for (int what = 0; what <= 4; what++) {
-                    put(d, loom.ofRoute(node, k, what));
-                }
-            }
-            for (int to = 0; to < loom.many(0); to++) {
-                put(d, loom.routeTo(node, loom.ofNode(to, 0)));
-                for (int k = 0; k <= 3; k++) {
-                    put(d, loom.trace(node, loom.ofNode(to, 0), k));
-                }
-            }
-        }
-        for (int link = 0; link < loom.many(1); link++) {
-            for (int i = 0; i < 14; i++) {
-                put(d, loom.ofLink(link, i >= 7, i % 7));
-            }
-            put(d, loom.lostWithout(link, 5));
-        }
-        for (int stream = 0; stream < loom.many(2); stream++) {
-            for (int what = 0; what <= 9; what++) {
-                put(d, loom.ofStream(stream, what));
-            }
-            for (int k = 0; k < loom.ofStream(stream, 5); k++) {
-                put(d, loom.letter(stream, k));
-            }
-            put(d, loom.sureIn(stream, 10));
-        }
-        for (int capture = 0; capture < loom.many(8); capture++) {
-            put(d, loom.captured(capture));
-        }
-        return d[0];
-    }
-
-    private static void put(long[] d, int value) {
-        d[0] = d[0] * 31 + value;
+        return d;
     }
 
     /** A network in which there is something of everything. */
