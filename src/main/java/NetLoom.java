@@ -1374,15 +1374,18 @@ public final class NetLoom {
         private void send(Node node, Packet packet) {
             boolean goesOn = true;
             for (int i = 0; goesOn && i < MAX_ANSWERS; i++) {
-                goesOn = packet.target == node.address ? get(node, packet) : pass(node, packet);
+                if (packet.target != node.address) {
+                    goesOn = pass(node, packet);
+                } else if (packet.isFragment() && !node.gather(packet, now)) {
+                    goesOn = false;
+                } else {
+                    goesOn = get(node, packet);
+                }
             }
         }
 
-        /** A PACKET is GOT at a NODE; returns whether it became what answers it. */
+        /** A whole PACKET is GOT at a NODE; returns whether it became what answers it. */
         private boolean get(Node node, Packet packet) {
-            if (packet.isFragment() && !node.gather(packet, now)) {
-                return false;
-            }
             switch (packet.kind) {
                 case PLAIN:
                     node.plainGot++;
